@@ -520,7 +520,7 @@ public final class GraphQuery {
         }
 
         void add(int t) {
-            if (t < 0 || t >= MOST_TARGETS || has(t) || count >= items.length) {
+            if (t < 0 || t >= MOST_TARGETS || isIn(mask, t) || count >= items.length) {
                 return;
             }
             items[count] = t;
@@ -670,19 +670,19 @@ public final class GraphQuery {
                 if (isIn(reached, other)) {
                     return steps;
                 }
-                reached |= neededByAny(reached);
+                reached |= joined(needMasks, reached);
             }
             return NONE;
         }
 
-        private int neededByAny(int mask) {
-            int needed = 0;
-            for (int t = 0; t < count && t < needMasks.length; t++) {
-                if (isIn(mask, t)) {
-                    needed |= needMasks[t];
+        private int joined(int[] masks, int wanted) {
+            int all = 0;
+            for (int t = 0; t < count && t < masks.length; t++) {
+                if (isIn(wanted, t)) {
+                    all |= masks[t];
                 }
             }
-            return needed;
+            return all;
         }
 
         int waysBetween(int t, int other, int steps) {
@@ -789,10 +789,12 @@ public final class GraphQuery {
         }
 
         void findTests(Row list) {
-            growByUsers(list, MOST_TARGETS);
-            int found = list.mask() & ofKind(TEST_KIND);
+            int reached = list.mask();
+            for (int round = 0; round < MOST_TARGETS; round++) {
+                reached |= joined(userMasks, reached);
+            }
             list.clear();
-            list.addByNumbers(found);
+            list.addByNumbers(reached & ofKind(TEST_KIND));
         }
 
         private int ofKind(int kind) {
@@ -854,10 +856,14 @@ public final class GraphQuery {
                 int value = program.valueAt(i);
                 if (kind == LET) {
                     rowAt(bound, value).copy(pop());
+                    continue;
+                }
+                if (isJoin(kind) || kind == WAY) {
+                    makeOfTwo(kind, graph);
                 } else {
                     make(kind, value, graph);
-                    looked += result().size();
                 }
+                looked += result().size();
             }
             return looked;
         }
@@ -893,7 +899,6 @@ public final class GraphQuery {
                     graph.findSame(result());
                     break;
                 default:
-                    makeOfTwo(kind, graph);
                     break;
             }
         }

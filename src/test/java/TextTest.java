@@ -6,6 +6,7 @@ public final class TextTest {
         eighty(check);
         tokens(check);
         grammar(check);
+        unfinished(check);
         letters(check);
         depth(check);
         illLeavesAnswer(check);
@@ -55,6 +56,10 @@ public final class TextTest {
         check.ill(q, "a1+g1", 3);
         check.ill(q, "A1", 0);
         check.ill(q, "AB", 0);
+        for (char c : new char[] {'a', 'z', 'A', 'Z', '0', '9'}) {
+            check.ill(q, "a1" + c, 0);
+            check.ill(q, c + "a1", 0);
+        }
         check.ill(q, "a", 0);
         check.ill(q, "All", 0);
         check.ill(q, "alls", 0);
@@ -116,6 +121,29 @@ public final class TextTest {
         check.ill(q, "f9+", 3);
     }
 
+    // What can follow a TERM follows one that is not whole.
+    private static void unfinished(Check check) {
+        GraphQuery q = Check.sample();
+        String[] words = {"deps", "users", "tests", "same", "way", "kind"};
+        for (String word : words) {
+            check.ill(q, word + "+a1", word.length());
+            check.ill(q, "(" + word + ")", word.length() + 1);
+            check.ill(q, "(" + word + "()", word.length() + 2);
+        }
+        check.ill(q, "(way(a1)", 7);
+        check.ill(q, "(way(a1,)", 8);
+        check.ill(q, "(kind(3)", 7);
+        check.ill(q, "(kind(3,)", 8);
+        check.ill(q, "(deps(a1,)", 9);
+        check.ill(q, "(let)", 4);
+        check.ill(q, "(let A)", 6);
+        check.ill(q, "(let A=)", 7);
+        check.ill(q, "(let A=a1)", 9);
+        check.ill(q, "(let A=a1 in)", 12);
+        check.ill(q, "(a1+)", 4);
+        check.ill(q, "(A)", 1);
+    }
+
     private static void letters(Check check) {
         GraphQuery q = Check.sample();
         check.ill(q, "A", 0);
@@ -146,6 +174,8 @@ public final class TextTest {
         check.ill(q, "(".repeat(12) + "a1" + ")".repeat(12), 12);
         check.ill(q, "(".repeat(12) + " a1", 13);
         check.ill(q, "(".repeat(12), 12);
+        check.ill(q, "(".repeat(12) + ")".repeat(12), 12);
+        q = Check.sample();
         check.ill(q, "(".repeat(11) + "a1+deps(a2", 19);
         check.list(q, "(".repeat(11) + "a1+a2" + ")".repeat(11), 0, 1);
         String three = "same(deps(users(";
