@@ -1,13 +1,33 @@
+import java.util.IdentityHashMap;
+import java.util.Map;
+
 /** Counts the answers of one test that are not as due, and makes the graphs that tests share. */
 final class Check {
+    /**
+     * Numbers that nothing has. The last three wrap round to small ones once they are multiplied
+     * by 10, 8 and 4.
+     */
+    static final int[] FAR_OFF = {Integer.MIN_VALUE, Integer.MIN_VALUE + 1, -1000, -31, -30, 31, 32,
+        64, 1000, Integer.MAX_VALUE, 429496730, 1 << 29, 1 << 30};
+
+    // What an object answers behind these is free, so no test may lean on it.
+    private static final int MOST_CALLS = 512;
+    private static final Map<GraphQuery, Integer> CALLS = new IdentityHashMap<>();
+
     private int wrong = 0;
     private int seen = 0;
+    private String about = "";
+
+    /** The words of the document that the next looks are about. */
+    void sentence(String words) {
+        about = "\"" + words + "\": ";
+    }
 
     void same(String what, long got, long due) {
         seen++;
         if (got != due) {
             wrong++;
-            System.out.println(what + " answered " + got + ", due is " + due);
+            System.out.println(about + what + " answered " + got + ", due is " + due);
         }
     }
 
@@ -18,6 +38,7 @@ final class Check {
     /** Asks a text and looks at the count, each TARGET of the ANSWER, and the end of it. */
     void list(GraphQuery q, String text, int... due) {
         same("ask of '" + text + "'", ask(q, text), due.length);
+        count(q, due.length + 1);
         for (int i = 0; i < due.length; i++) {
             same("answer(" + i + ") of '" + text + "'", q.answer(i), due[i]);
         }
@@ -39,7 +60,14 @@ final class Check {
         }
     }
 
+    private static void count(GraphQuery q, int calls) {
+        if (CALLS.merge(q, calls, Integer::sum) > MOST_CALLS) {
+            throw new IllegalStateException("the test uses an object too often");
+        }
+    }
+
     static int ask(GraphQuery q, String text) {
+        count(q, text.length() + 1);
         for (int i = 0; i < text.length(); i++) {
             if (!q.type(text.charAt(i))) {
                 throw new IllegalStateException("the test's text is too long: " + text);
@@ -54,6 +82,7 @@ final class Check {
      */
     static GraphQuery sample() {
         GraphQuery q = new GraphQuery();
+        count(q, 17);
         int[][] targets = {{0, 1, 0}, {0, 2, 1}, {1, 2, 2}, {2, 3, 1}, {3, 4, 0}, {1, 9, 3},
             {4, 0, 3}, {2, 8, 3}};
         for (int[] t : targets) {
@@ -62,6 +91,16 @@ final class Check {
         int[][] needs = {{0, 2}, {0, 1}, {1, 3}, {2, 3}, {2, 4}, {3, 0}, {4, 4}, {5, 1}, {6, 5}};
         for (int[] n : needs) {
             q.needs(n[0], n[1]);
+        }
+        return q;
+    }
+
+    /** So many of KIND 0, named a0, a1, .. a9, b0, .., without NEEDS. */
+    static GraphQuery loose(int count) {
+        GraphQuery q = new GraphQuery();
+        count(q, count);
+        for (int i = 0; i < count; i++) {
+            q.target(i / 10, i % 10, 0);
         }
         return q;
     }
