@@ -313,11 +313,13 @@ public final class ListEdgesTest {
     // As many LISTS that wait for another one as 80 characters can make.
     private void mostHeldBack() {
         check.sentence("a + b: a, then those of b: however long b takes");
-        right("let A=c3 in " + "A+way(A,".repeat(5) + "A+(".repeat(5) + "a1" + ")".repeat(10), 3);
-        right("let A=c3 in " + "A+(".repeat(10) + "a1" + ")".repeat(10), 3, 0);
-        right("c3+way(a1,".repeat(3) + "d4+(".repeat(8) + "a1" + ")".repeat(11), 3, 0);
+        // had one of those that wait been lost, nothing would be left
+        right("let A=c3 in " + "A&way(A,".repeat(5) + "A&(".repeat(4) + "A-(a1" + ")".repeat(10), 3);
+        right("c3&way(c3,".repeat(3) + "c3&(".repeat(7) + "c3-(a1+a2" + ")".repeat(11), 3);
         right("all-way(d4,".repeat(5) + "d4" + ")".repeat(5), 0, 1, 2, 3, 5, 6, 7);
         right("all-way(d4,".repeat(6) + "d4" + ")".repeat(6), upTo(8));
+        check.list(Check.loose(13), "a0+(a1+(a2+(a3+(a4+(a5+(a6+(a7+(a8+(a9+(b0+(b1+b2)))))))))))",
+            upTo(13));
     }
 
     private void kind() {
